@@ -35,6 +35,34 @@ final class Paper {
         return mix(mix(mix(a) + b) + c);
     }
 
+    /** The int whose MIX is x: MIX can be undone, so a test can ask for any WORD that it needs. */
+    static int unmixed(int x) {
+        int y = x ^ x >>> 16;
+        y *= inverse(2073254073);
+        y ^= y >>> 15 ^ y >>> 30;
+        y *= inverse(2146121005);
+        return y ^ y >>> 16;
+    }
+
+    private static int inverse(int factor) {
+        return BigInteger.valueOf(factor).modInverse(WRAP).intValue();
+    }
+
+    /** The a with which the WORD of a, b, c is the given one. */
+    static int firstOfWord(int word, int b, int c) {
+        return unmixed(unmixed(unmixed(word) - c) - b);
+    }
+
+    /** The b with which the WORD of a, b, c is the given one. */
+    static int secondOfWord(int word, int a, int c) {
+        return unmixed(unmixed(word) - c) - mix(a);
+    }
+
+    /** A seed with which seal takes this e for that key. */
+    static int seedFor(int e, int f, int number) {
+        return secondOfWord(e - 2 << 1, f, number);
+    }
+
     static int sign(byte[] row, int r) {
         BigInteger m = unsigned(r).shiftRight(8).mod(BigInteger.valueOf(65520)).add(BigInteger.ONE);
         BigInteger t = BigInteger.ZERO;
@@ -110,6 +138,17 @@ final class Paper {
         return piece(f, k, 6, Arrays.copyOfRange(message, k * 8, message.length));
     }
 
+    /** The whole file that seal makes for the keys of these secrets whose bits are set in who. */
+    static byte[] sealed(int[] secrets, int who, int f, int seed, byte[] message) {
+        Paper paper = start(Integer.bitCount(who));
+        for (int number = 0; number < secrets.length; number++) {
+            if ((who >> number & 1) == 1) {
+                paper.entry(address(secrets[number]), exponent(f, seed, number), f);
+            }
+        }
+        return paper.headSign(f).pieces(f, message).made();
+    }
+
     byte[] made() {
         return bytes.toByteArray();
     }
@@ -140,12 +179,16 @@ final class Paper {
         x.load();
     }
 
+    static String text(byte[] row) {
+        return Arrays.toString(row);
+    }
+
     static String fileOf(SealedFiles x) {
         byte[] row = new byte[x.count(1)];
         for (int i = 0; i < row.length; i++) {
             row[i] = (byte) x.at(i);
         }
-        return Arrays.toString(row);
+        return text(row);
     }
 
     static String messageOf(SealedFiles x) {
@@ -153,6 +196,6 @@ final class Paper {
         for (int i = 0; i < row.length; i++) {
             row[i] = (byte) x.read(i);
         }
-        return Arrays.toString(row);
+        return text(row);
     }
 }

@@ -15,6 +15,7 @@ public final class RandomRunsTest {
 
     public static void main(String[] args) {
         Check check = new Check();
+        check.sentence("Promises 1 to 16, in long mixed runs");
         for (int run = 0; run < RUNS; run++) {
             new Run(check, run).go();
         }
